@@ -191,6 +191,15 @@ public final class AheadTest {
         due("nobody in the 40th", x.ranks(0), 15);
         x.sees(40, 0);
         due("two of one TICK that differ", x.ranks(0), 0);
+        x.forget();
+        int[] who = {0, 0, 1, 1, TransferRings.NONE};
+        for (int k = 1; k <= who.length; k++) {
+            due("ranks(0) with " + (k - 1) + " SEEN", x.ranks(0), k == 1 ? 15 : k == 2 ? 14 : 12);
+            x.sees(k, who[k - 1]);
+        }
+        due("sees, the sixth", x.sees(39, TransferRings.NONE), 6);
+        due("ranks(0) with six SEEN", x.ranks(0), 12);
+        due("ranks(1) with six SEEN", x.ranks(1), 3);
     }
 
     private static void ranksAreOfWhenItIsAsked() {

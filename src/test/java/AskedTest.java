@@ -163,6 +163,8 @@ public final class AskedTest {
         }
         TransferRings all = Check.with("l0 0 0 16 1 1 4 0 16 0;");
         due("all ADDRESSES", all.both(0, 0, 0, 0), 64);
+        TransferRings skips = Check.with("l0 0 0 2 1 1 1 9 20 0;");
+        due("no row behind the last", skips.both(0, 0, 0, 0), 2);
     }
 
     private static void nothingChanges() {

@@ -210,7 +210,18 @@ public final class ToldTest {
         fault("c0 0 1", 6);
         fault("l0 0 0 1 0 0 1 0 0 0", 20);
         fault(" ".repeat(119) + "f", 120);
+        behindAnOlderText("f0 0;", "f0 0", 4);
+        behindAnOlderText("f0 255;", "f0 25", 5);
+        behindAnOlderText("f0 0;f1 1;", "f0 0;f", 6);
         due("posts of 120 blanks", Check.posted(new TransferRings(), " ".repeat(120)), 0);
+    }
+
+    /** What an older text had behind the end of this one is not read. */
+    private static void behindAnOlderText(String older, String text, int place) {
+        TransferRings x = new TransferRings();
+        Check.typed(x, older);
+        x.clear();
+        due("posts of \"" + text + "\" behind \"" + older + "\"", Check.posted(x, text), -10 - place);
     }
 
     private static void postsBlanks() {
