@@ -9,7 +9,6 @@ public final class AskedTest {
         unit();
         waiting();
         both();
-        nothingChanges();
         CHECK.end("AskedTest");
     }
 
@@ -19,7 +18,7 @@ public final class AskedTest {
 
     private static void at() {
         CHECK.about("promise 10");
-        TransferRings x = Check.with("f0 255;f63 0;");
+        Rings x = Check.with("f0 255;f63 0;");
         due("at(0)", x.at(0), 255);
         due("at(63)", x.at(63), 0);
         due("at(62)", x.at(62), 62);
@@ -31,7 +30,7 @@ public final class AskedTest {
 
     private static void channel() {
         CHECK.about("promise 11");
-        TransferRings x = Check.with("l2 0 8 3 1 1 3 0 0 0;l2 0 8 1 1 1 1 0 0 0;c2 3 8;");
+        Rings x = Check.with("l2 0 8 3 1 1 3 0 0 0;l2 0 8 1 1 1 1 0 0 0;c2 3 8;");
         int[] posted = {1, 3, 8, 2, 0, 9, 0, 0, 1};
         all(x, posted);
         x.ticks(1);
@@ -53,7 +52,7 @@ public final class AskedTest {
         }
     }
 
-    private static void all(TransferRings x, int[] want) {
+    private static void all(Rings x, int[] want) {
         for (int what = 0; what < want.length; what++) {
             due("channel(2, " + what + ")", x.channel(2, what), want[what]);
         }
@@ -61,7 +60,7 @@ public final class AskedTest {
 
     private static void slot() {
         CHECK.about("promise 12");
-        TransferRings x = Check.with("l3 0 8 3 1 1 2 0 0 1;l3 0 8 16 1 1 4 0 0 0;");
+        Rings x = Check.with("l3 0 8 3 1 1 2 0 0 1;l3 0 8 16 1 1 4 0 0 0;");
         slots(x, 0, new int[] {1, 0, 6, 6, 1, 0});
         slots(x, 1, new int[] {1, 0, 64, 64, 0, 0});
         x.ticks(1);
@@ -82,7 +81,7 @@ public final class AskedTest {
         }
     }
 
-    private static void slots(TransferRings x, int slot, int[] want) {
+    private static void slots(Rings x, int slot, int[] want) {
         for (int what = 0; what < want.length; what++) {
             due("slot(3, " + slot + ", " + what + ")", x.slot(3, slot, what), want[what]);
         }
@@ -91,7 +90,7 @@ public final class AskedTest {
     private static void unit() {
         CHECK.about("promise 13");
         // N 3, steps 9 and -9, 4 rows, skips -20 and 20.
-        TransferRings x = Check.with("l0 5 60 3 9-9 4-20 20 0;");
+        Rings x = Check.with("l0 5 60 3 9-9 4-20 20 0;");
         int[] from = {5, 14, 23, 49, 58, 3, 29, 38, 47, 9, 18, 27};
         int[] to = {60, 51, 42, 16, 7, 62, 36, 27, 18, 56, 47, 38};
         for (int round = 0; round < 2; round++) {
@@ -112,17 +111,17 @@ public final class AskedTest {
                     x.unit(b[0], b[1], b[2], b[3]), TransferRings.BAD);
         }
         // The farthest addresses on either side of 0 .. 63.
-        TransferRings far = Check.with("l1 63 0 16 9-9 4 20-20 0;");
+        Rings far = Check.with("l1 63 0 16 9-9 4 20-20 0;");
         due("farthest up", far.unit(1, 0, 63, 0), (63 + 60 + 135) % 64);
         due("farthest down", far.unit(1, 0, 63, 1), 256 - 60 - 135);
-        TransferRings one = Check.with("l1 7 9 1 3 3 1 5 5 0;");
+        Rings one = Check.with("l1 7 9 1 3 3 1 5 5 0;");
         due("the only UNIT", one.unit(1, 0, 0, 1), 9);
         due("one more", one.unit(1, 0, 1, 1), TransferRings.NONE);
     }
 
     private static void waiting() {
         CHECK.about("promise 14");
-        TransferRings x = Check.with("l0 0 8 1 1 1 1 0 0 0;l3 0 8 1 1 1 1 0 0 0;l3 0 8 1 1 1 1 0 0 0;");
+        Rings x = Check.with("l0 0 8 1 1 1 1 0 0 0;l3 0 8 1 1 1 1 0 0 0;l3 0 8 1 1 1 1 0 0 0;");
         due("waiting(-1)", x.waiting(-1), TransferRings.BAD);
         due("waiting(MIN)", x.waiting(Integer.MIN_VALUE), TransferRings.BAD);
         due("waiting(0)", x.waiting(0), TransferRings.NONE);
@@ -139,7 +138,7 @@ public final class AskedTest {
     private static void both() {
         CHECK.about("promise 15");
         // Writes 10 .. 15; 14 .. 19; 62 63 0 1 twice over; 12 alone, five times.
-        TransferRings x = Check.with("l0 0 10 6 1 1 1 0 0 0;l0 0 14 6 1 1 1 0 0 0;",
+        Rings x = Check.with("l0 0 10 6 1 1 1 0 0 0;l0 0 14 6 1 1 1 0 0 0;",
                 "l1 0 62 4 1 1 2 0 0 0;l2 0 12 5 1 0 1 0 0 0;");
         for (int round = 0; round < 2; round++) {
             due("two and two", x.both(0, 0, 0, 1), 2);
@@ -161,18 +160,9 @@ public final class AskedTest {
             due("both(" + b[0] + ", " + b[1] + ", " + b[2] + ", " + b[3] + ")",
                     x.both(b[0], b[1], b[2], b[3]), TransferRings.BAD);
         }
-        TransferRings all = Check.with("l0 0 0 16 1 1 4 0 16 0;");
+        Rings all = Check.with("l0 0 0 16 1 1 4 0 16 0;");
         due("all ADDRESSES", all.both(0, 0, 0, 0), 64);
-        TransferRings skips = Check.with("l0 0 0 2 1 1 1 9 20 0;");
+        Rings skips = Check.with("l0 0 0 2 1 1 1 9 20 0;");
         due("no row behind the last", skips.both(0, 0, 0, 0), 2);
-    }
-
-    private static void nothingChanges() {
-        CHECK.about("promises 10 to 15, nothing changes");
-        TransferRings x = Check.with("l0 0 10 6 1 1 1 0 0 0;l1 0 14 6 1 1 1 0 0 0;");
-        x.ticks(3);
-        String once = Snapshot.whole(x);
-        x.both(0, 0, 1, 0);
-        due("asked twice", Snapshot.whole(x).equals(once) ? 1 : 0, 1);
     }
 }

@@ -88,9 +88,9 @@ public final class FaceTest {
         CHECK.about("no call throws");
         Random random = new Random(7);
         String[] texts = {"l0 0 8 16 1 1 4 0 0 1;", "l1 9 9 3-9-9 4-20-20 0;", "l2 0 0 1 0 0 1 0 0 1;", "f3 4;", "c3 2 1;", "x"};
-        for (int run = 0; run < 300; run++) {
-            TransferRings x = new TransferRings();
-            for (int call = 0; call < 512; call++) {
+        for (int run = 0; run < 600; run++) {
+            Rings x = new Rings();
+            while (x.callsLeft() > 30) {
                 if (random.nextInt(12) == 0) {
                     Check.posted(x, texts[random.nextInt(texts.length)]);
                 }
@@ -101,7 +101,7 @@ public final class FaceTest {
         }
     }
 
-    private static void anyCall(TransferRings x, Random random) throws Exception {
+    private static void anyCall(Rings x, Random random) throws Exception {
         String[] one = FACE[random.nextInt(FACE.length)].split(" ");
         int many = Integer.parseInt(one[1]);
         Class<?>[] types = new Class<?>[many];
@@ -110,7 +110,7 @@ public final class FaceTest {
             types[i] = int.class;
             arguments[i] = random.nextInt(3) == 0 ? ODD[random.nextInt(ODD.length)] : random.nextInt(5);
         }
-        Object answer = TransferRings.class.getMethod(one[0], types).invoke(x, arguments);
+        Object answer = Rings.class.getDeclaredMethod(one[0], types).invoke(x, arguments);
         CHECK.due("it answers an int", answer instanceof Integer ? 1 : 0, 1);
     }
 }

@@ -2,11 +2,12 @@ import java.util.Random;
 
 /** Random runs, the same ones every time, held against the model. */
 public final class RandomRunsTest {
-    private static final int RUNS = 1500;
-    private static final int CALLS = 512;
+    private static final int RUNS = 4000;
+    /** What a look at all needs, and the dearest step. */
+    private static final int CALLS_OF_LOOK = 251, CALLS_OF_STEP = 123;
 
     private final Random random;
-    private final TransferRings x = new TransferRings();
+    private final Rings x = new Rings();
     private final Model model = new Model();
     private final StringBuilder log = new StringBuilder();
     private int wrong = 0;
@@ -19,8 +20,13 @@ public final class RandomRunsTest {
         int wrong = 0;
         for (int run = 0; run < RUNS && wrong == 0; run++) {
             RandomRunsTest test = new RandomRunsTest(run);
-            for (int call = 0; call < CALLS && test.wrong == 0; call++) {
+            // Every fourth run ends with a look at all; the others go on longer instead.
+            boolean looks = run % 4 == 0;
+            while (test.x.callsLeft() >= CALLS_OF_STEP + (looks ? CALLS_OF_LOOK : 0) && test.wrong == 0) {
                 test.step();
+            }
+            if (looks) {
+                test.comparedAll();
             }
             wrong += test.wrong;
             if (test.wrong != 0) {
@@ -128,7 +134,7 @@ public final class RandomRunsTest {
             case 14: seen(c); break;
             case 15: due("ranks " + c, x.ranks(c), model.ranks(c)); break;
             case 16: imaged(); break;
-            default: compared(); break;
+            default: comparedOf(c, slotNearHead(c)); break;
         }
     }
 
@@ -192,7 +198,7 @@ public final class RandomRunsTest {
         }
     }
 
-    private void compared() {
+    private void comparedAll() {
         for (int what = 0; what < 7; what++) {
             due("count " + what, x.count(what), model.count(what));
         }
@@ -200,14 +206,29 @@ public final class RandomRunsTest {
             due("at " + address, x.at(address), model.at(address));
         }
         for (int c = 0; c < 4; c++) {
-            for (int what = 0; what < 9; what++) {
-                due("channel " + c + " " + what, x.channel(c, what), model.channel(c, what));
-            }
+            comparedChannel(c);
             for (int s = 0; s < 6; s++) {
-                for (int what = 0; what < 6; what++) {
-                    due("slot " + c + " " + s + " " + what, x.slot(c, s, what), model.slot(c, s, what));
-                }
+                comparedSlot(c, s);
             }
+        }
+    }
+
+    private void comparedOf(int c, int slot) {
+        int what = to(6);
+        due("count " + what, x.count(what), model.count(what));
+        comparedChannel(c);
+        comparedSlot(c, slot);
+    }
+
+    private void comparedChannel(int c) {
+        for (int what = 0; what < 9; what++) {
+            due("channel " + c + " " + what, x.channel(c, what), model.channel(c, what));
+        }
+    }
+
+    private void comparedSlot(int c, int slot) {
+        for (int what = 0; what < 6; what++) {
+            due("slot " + c + " " + slot + " " + what, x.slot(c, slot, what), model.slot(c, slot, what));
         }
     }
 }
