@@ -19,6 +19,7 @@ public final class CallsEdgesTest {
 
     public static void main(String[] args) {
         aNewObject();
+        theFirstRefusal();
         type();
         clear();
         posts();
@@ -94,6 +95,19 @@ public final class CallsEdgesTest {
         due("count(3) of another", other.count(3), 0);
         due("count(5) of another", other.count(5), 0);
         due("back(0) of another", other.back(0), TransferRings.STATE);
+    }
+
+    private static void theFirstRefusal() {
+        CHECK.words("Refused, and nothing changes, the first of these: BAD (a number is not as told, or there is no such thing), STATE (as told), FULL.");
+        CROWDED.leaves(CHECK, "type(256), where 32 is FULL", x -> x.type(256), TransferRings.BAD);
+        CROWDED.leaves(CHECK, "sees(0, 1), where 1, 1 is FULL", x -> x.sees(0, 1), TransferRings.BAD);
+        CROWDED.leaves(CHECK, "sees(1, 4), where 1, 1 is FULL", x -> x.sees(1, 4), TransferRings.BAD);
+        NEW.leaves(CHECK, "cancels(4), where 3 is STATE", x -> x.cancels(4), TransferRings.BAD);
+        NEW.leaves(CHECK, "tunes(4, 0, 4), where 3, 0, 4 is STATE", x -> x.tunes(4, 0, 4), TransferRings.BAD);
+        NEW.leaves(CHECK, "back(2), where 1 is STATE", x -> x.back(2), TransferRings.BAD);
+        NEW.leaves(CHECK, "all numbers BAD", x -> x.tunes(4, 4, 9), TransferRings.BAD);
+        NEW.leaves(CHECK, "all numbers BAD", x -> x.both(4, 6, -1, -1), TransferRings.BAD);
+        NEW.leaves(CHECK, "all numbers BAD", x -> x.unit(4, 6, -1, 2), TransferRings.BAD);
     }
 
     private static void type() {

@@ -14,6 +14,7 @@ public final class TextEdgesTest {
         noItems();
         endedBySemicolon();
         words();
+        numbersInTheirOrder();
         numbersBelow0();
         blanksThatAreNeeded();
         theFirstFault();
@@ -168,6 +169,24 @@ public final class TextEdgesTest {
         fault("c3 3;", 4);
         fault("ff8 9;", 1);
         fault("f f8 9;", 2);
+    }
+
+    private static void numbersInTheirOrder() {
+        CHECK.words("l C F T N a b r u v e (a LETTER for CHANNEL C; e: CHAINED)");
+        // No two of them are alike but r and e, which are told apart by the other two letters.
+        Rings x = Check.with("l3 10 20 5 4 6 2 7 8 1;", "l3 10 20 5 4 6 1 7 8 1;", "l3 10 20 5 4 6 2 7 8 0;");
+        int[][] want = {{10, 1}, {5, 1}, {10, 0}};
+        for (int s = 0; s < want.length; s++) {
+            due("UNITS, SLOT " + s, x.slot(3, s, 3), want[s][0]);
+            due("CHAINED, SLOT " + s, x.slot(3, s, 4), want[s][1]);
+            due("from, UNIT 4", x.unit(3, s, 4, 0), 10 + 4 * 4);
+            due("to, UNIT 4", x.unit(3, s, 4, 1), 20 + 4 * 6);
+        }
+        due("from, UNIT 5", x.unit(3, 0, 5, 0), 10 + 7);
+        due("to, UNIT 5", x.unit(3, 0, 5, 1), 20 + 8);
+        for (int c = 0; c <= 3; c++) {
+            due("POST of " + c, x.channel(c, 3), c == 3 ? 3 : 0);
+        }
     }
 
     private static void numbersBelow0() {

@@ -3,6 +3,7 @@ public final class TicksEdgesTest {
     private static final Check CHECK = new Check();
 
     public static void main(String[] args) {
+        itemByItem();
         inPlaceOfOneThatWasThere();
         behind5Comes0();
         fullOfTheEngines();
@@ -36,6 +37,23 @@ public final class TicksEdgesTest {
         for (int what = 0; what < want.length; what++) {
             due("slot(" + channel + ", " + slot + ", " + what + ")", x.slot(channel, slot, what), want[what]);
         }
+    }
+
+    private static void itemByItem() {
+        CHECK.words("POSTED: a text without a FAULT is gone through, ITEM by ITEM.");
+        Rings x = Check.with("f0 1;c1 1 1;" + letter(1, 1, 0) + "f0 2;c1 3 8;" + letter(1, 2, 0) + letter(1, 3, 0) + "f0 3;c1 2 7;");
+        due("at(0), the last of three", x.at(0), 3);
+        due("RANK, the last of three", x.channel(1, 1), 2);
+        due("BURST, the last of three", x.channel(1, 2), 7);
+        for (int s = 0; s <= 2; s++) {
+            due("UNITS, SLOT " + s, x.slot(1, s, 3), s + 1);
+        }
+        // All of it is one thing DONE, and no TICK goes by.
+        due("count(5)", x.count(5), 1);
+        due("count(6)", x.count(6), 0);
+        due("undo", x.undo(), 0);
+        due("at(0)", x.at(0), 0);
+        due("POST", x.channel(1, 3), 0);
     }
 
     private static void inPlaceOfOneThatWasThere() {
