@@ -23,10 +23,14 @@ public final class FaceTest {
         121, 199, 200, 201, 255, 256, -1, -2, -3, -8, -9, -10, -20, -64, Integer.MIN_VALUE, Integer.MIN_VALUE + 1,
         Integer.MAX_VALUE, Integer.MAX_VALUE - 1, 1 << 16, 1 << 30};
 
+    private static final String[] TEXTS = {"l0 0 8 16 1 1 4 0 0 1;", "l1 9 9 3-9-9 4-20-20 0;", "l2 0 0 1 0 0 1 0 0 1;",
+        "f3 4;", "c3 2 1;", "x"};
+
     public static void main(String[] args) throws Exception {
         face();
         source();
         anyArguments();
+        laterCalls();
         CHECK.end("FaceTest");
     }
 
@@ -87,12 +91,11 @@ public final class FaceTest {
     private static void anyArguments() throws Exception {
         CHECK.about("no call throws");
         Random random = new Random(7);
-        String[] texts = {"l0 0 8 16 1 1 4 0 0 1;", "l1 9 9 3-9-9 4-20-20 0;", "l2 0 0 1 0 0 1 0 0 1;", "f3 4;", "c3 2 1;", "x"};
         for (int run = 0; run < 600; run++) {
             Rings x = new Rings();
             while (x.callsLeft() > 30) {
                 if (random.nextInt(12) == 0) {
-                    Check.posted(x, texts[random.nextInt(texts.length)]);
+                    Check.posted(x, TEXTS[random.nextInt(TEXTS.length)]);
                 }
                 anyCall(x, random);
             }
@@ -101,7 +104,25 @@ public final class FaceTest {
         }
     }
 
-    private static void anyCall(Rings x, Random random) throws Exception {
+    /** What calls behind the 512th answer is free, but rule 7 of LANGUAGE.md lets them throw no more than the others. */
+    private static void laterCalls() throws Exception {
+        CHECK.about("no later call throws");
+        Random random = new Random(8);
+        TransferRings x = new TransferRings();
+        for (int i = 0; i < 20000; i++) {
+            if (i % 30 == 0) {
+                x.clear();
+                String text = TEXTS[random.nextInt(TEXTS.length)];
+                for (int j = 0; j < text.length(); j++) {
+                    x.type(text.charAt(j));
+                }
+                x.posts();
+            }
+            anyCall(x, random);
+        }
+    }
+
+    private static void anyCall(Object x, Random random) throws Exception {
         String[] one = FACE[random.nextInt(FACE.length)].split(" ");
         int many = Integer.parseInt(one[1]);
         Class<?>[] types = new Class<?>[many];
@@ -110,7 +131,7 @@ public final class FaceTest {
             types[i] = int.class;
             arguments[i] = random.nextInt(3) == 0 ? ODD[random.nextInt(ODD.length)] : random.nextInt(5);
         }
-        Object answer = Rings.class.getDeclaredMethod(one[0], types).invoke(x, arguments);
+        Object answer = x.getClass().getDeclaredMethod(one[0], types).invoke(x, arguments);
         CHECK.due("it answers an int", answer instanceof Integer ? 1 : 0, 1);
     }
 }
